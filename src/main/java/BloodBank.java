@@ -1100,7 +1100,7 @@ public final class BloodBank {
         private int warmRow;
         private final int[] sources = new int[TRAY_SIZE];
 
-        /** Sets every field: the object may have been another bag before clear(). */
+        /** Sets all but what comeFrom..() does: the object may have been another bag before clear(). */
         private void set(int newKind, int newBank, int newGrams, int expiry) {
             kind = newKind;
             bank = newBank;
@@ -1117,7 +1117,6 @@ public final class BloodBank {
             for (int i = 0; i < TRAY_SIZE; i++) {
                 sources[i] = NONE;
             }
-            comeFromDonor(NO_DONOR, 0, 0);
             lieNowhere(ON_BENCH);
         }
 
@@ -1247,11 +1246,10 @@ public final class BloodBank {
         private final int[] row = new int[MAX_PLACES];
         private final int[] tenthsRow = new int[MAX_READINGS];
 
-        /** Sets all that tells: the object may have been another rack before clear(). */
+        /** Sets all that tells but the lock, which no act leaves: the object may have been another rack before clear(). */
         private void set(int newBank, int newKind) {
             bank = newBank;
             kind = newKind;
-            locked = false;
             dropRow();
             setProbe(false, 0);
         }

@@ -22,6 +22,7 @@ public final class ActsTest {
         partingFull();
         trays();
         pooling();
+        poolingGroups();
         poolingTests();
         poolFindings();
         freezing();
@@ -415,6 +416,22 @@ public final class ActsTest {
         c.promise(24);
         c.due(199, y.thaw(198));
         refused(y, FULL, 8, 1, y.thaw(198));
+        oneMore();
+    }
+
+    /** The last bag may come by any act that makes one. */
+    private static void oneMore() {
+        for (int act = 6; act <= 7; act++) {
+            BloodBank x = new BloodBank();
+            for (int i = 0; i < 199; i++) {
+                takeOf(x, PLASMA);
+            }
+            x.tray(198);
+            x.tray(0);
+            c.promise(act + 16);
+            c.due(199, act == 6 ? x.pool(PLASMA) : x.freeze(198));
+            refused(x, FULL, act, 1, act == 6 ? x.pool(PLASMA) : x.freeze(1));
+        }
     }
 
     private static void trays() {
@@ -504,6 +521,20 @@ public final class ActsTest {
         c.due(600, x.told(six + 1, 8));
         c.due(six, x.from(six + 1, 5));
         c.due(NONE, x.from(six + 1, 6));
+    }
+
+    private static void poolingGroups() {
+        c.promise(22);
+        for (int one = 0; one < 8; one++) {
+            BloodBank x = new BloodBank();
+            for (int other = 0; other < 8; other++) {
+                x.tray(x.take(0, PLATELETS, 1, one, one << 13, 1));
+                x.tray(x.take(0, PLATELETS, 1, other, other, 1));
+                int pool = x.pool(PLATELETS);
+                c.due(one & other, x.told(pool, 6));
+                c.due(one << 13 | other, x.told(pool, 7));
+            }
+        }
     }
 
     /** All mixes of three sources by test and warmth. */
@@ -613,10 +644,12 @@ public final class ActsTest {
         for (int i = 0; i < others.length; i++) {
             tried(x, KIND, 7, i + 4, x.freeze(others[i]));
         }
-        int light = x.take(0, PLASMA, 1, 1, 1, 49);
-        int frozen = x.freeze(light);
-        c.due(49, x.told(frozen, 8));
-        c.due(0, x.told(light, 9));
+        for (int grams : new int[] {1, 49, 50, 99, 100, 1999, 2000}) {
+            int plasma = x.take(0, PLASMA, 1, 1, 1, grams);
+            int frozen = x.freeze(plasma);
+            c.due(grams - grams / 50, x.told(frozen, 8));
+            c.due(grams / 50, x.told(plasma, 9));
+        }
         int late = takeOf(x, PLASMA);
         pass(x, 89);
         c.due(late + 1, x.freeze(late));

@@ -140,6 +140,9 @@ public final class BagsTest {
             c.due(BAD, x.bodies(bags[i], -1));
             c.due(Math.min(i, 5), x.kindOf(bags[i]));
         }
+        c.due(-180, x.bodies(pooled(x, 2, frozen(x, 1), x.take(0, 2, 1, 1, 1, 9)), 0));
+        c.due(-180, x.bodies(pooled(x, 2, frozen(x, 1), frozen(x, 1)), 0));
+        c.due(80, x.bodies(pooled(x, 2, x.thaw(frozen(x, 1)), x.take(0, 2, 1, 1, 1, 9)), 0));
         c.due(NONE, x.bodies(-1, 9));
         c.due(NONE, x.bodies(200, 0));
         c.due(NONE, x.bodies(x.count(1), 0));

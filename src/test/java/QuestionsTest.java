@@ -17,6 +17,7 @@ public final class QuestionsTest {
         counts();
         digests();
         clearing();
+        fullHouse();
         c.end();
     }
 
@@ -343,7 +344,7 @@ public final class QuestionsTest {
         BloodBank x = new BloodBank();
         c.due(0, x.clear());
         fill(x);
-        c.due(7, x.clear());
+        c.due(11, x.clear());
         for (int what = 0; what < 5; what++) {
             c.due(0, x.count(what));
         }
@@ -368,7 +369,7 @@ public final class QuestionsTest {
         }
         c.due(1, x.probe(0, true));
         c.due(0, x.readings(0));
-        for (int bag = 0; bag < 7; bag++) {
+        for (int bag = 0; bag < 11; bag++) {
             x.take(1, 2, 9, 1, 1, 10);
             int[] told = {0, 0, 0, 0, -9, 9, 1, 1, 10, 0, 90, 0, 0, 1, -9, -9, -9};
             for (int what = 0; what < told.length; what++) {
@@ -385,6 +386,44 @@ public final class QuestionsTest {
         fill(y);
         c.due(y.digest(), x.digest());
         c.due(y.listed(0), x.listed(0));
+    }
+
+    /** With all numbers given out, what walks over all of them comes to its end. */
+    private static void fullHouse() {
+        BloodBank x = new BloodBank();
+        for (int i = 0; i < 12; i++) {
+            x.rack(0, 6);
+            x.row(i, 20);
+        }
+        for (int i = 0; i < 40; i++) {
+            x.patient(0, 0);
+        }
+        for (int i = 0; i < 200; i++) {
+            x.take(0, 1, 1, 0, 0, 1);
+            x.lay(i, i / 20, i % 20);
+        }
+        c.promise(10);
+        c.due(1, x.minute());
+        c.due(1, x.told(199, 11));
+        c.promise(43);
+        c.due(200, x.stock(0, 6));
+        c.promise(45);
+        c.due(0, x.locked());
+        c.promise(16);
+        c.due(20, x.slide(9, 0, 0, 20));
+        c.promise(37);
+        c.due(NONE, x.came(199, 0));
+        c.promise(42);
+        c.due(EMPTY, x.match(39, 1));
+        x.test(199, true);
+        x.free(199);
+        c.due(199, x.match(39, 1));
+        c.promise(31);
+        c.due(200, x.recall(1));
+        c.promise(48);
+        c.due(digestByWords(x), x.digest());
+        c.promise(49);
+        c.due(200, x.clear());
     }
 
     private static void fill(BloodBank x) {
@@ -415,5 +454,6 @@ public final class QuestionsTest {
         x.reserve(6, 0);
         x.tray(0);
         x.spoil(99);
+        x.part(x.take(0, 0, 1, 1, 0, 500));
     }
 }
