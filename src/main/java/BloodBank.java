@@ -24,8 +24,9 @@ public final class BloodBank {
     private static final int FOUND_NOTHING = 0;
 
     /** Stands among readings in tenths for one that is no number; no told reading reaches it. */
-    private static final int NO_NUMBER = Integer.MIN_VALUE;
+    private static final int NO_NUMBER = 9999;
     private static final long NO_NUMBER_FORM = 2143289344L;
+    private static final int SIGN_BIT = 1 << 31;
 
     private final Rack[] racks = new Rack[MAX_RACKS];
     private final Bag[] bags = new Bag[MAX_BAGS];
@@ -956,7 +957,7 @@ public final class BloodBank {
         if (b.kind != Kinds.POOL) {
             return Kinds.mark(b.kind);
         }
-        int least = Integer.MAX_VALUE;
+        int least = MOST_TENTHS;
         for (int i = 0; i < TRAY_SIZE; i++) {
             Bag source = bagOf(b.source(i));
             if (source != null) {
@@ -999,7 +1000,7 @@ public final class BloodBank {
         // The significand's highest bit, which the form leaves out, makes the 126 of the exponent 127.
         long significand = ((size << (23 - exponent)) + 5) / 10;
         int bits = (int) (((exponent + 126L) << 23) + significand);
-        return tenths < 0 ? bits | Integer.MIN_VALUE : bits;
+        return tenths < 0 ? bits | SIGN_BIT : bits;
     }
 
     /** What holds for a kind, whichever bag it is. */
@@ -1246,7 +1247,7 @@ public final class BloodBank {
         private final int[] row = new int[MAX_PLACES];
         private final int[] tenthsRow = new int[MAX_READINGS];
 
-        /** Sets all that tells but the lock, which no act leaves: the object may have been another rack before clear(). */
+        /** Sets all but the lock, which no act leaves: the object may have been another rack before clear(). */
         private void set(int newBank, int newKind) {
             bank = newBank;
             kind = newKind;

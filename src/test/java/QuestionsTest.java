@@ -453,7 +453,7 @@ public final class QuestionsTest {
         x.pool(3);
         x.reserve(6, 0);
         x.tray(0);
-        x.spoil(99);
         x.part(x.take(0, 0, 1, 1, 0, 500));
+        x.spoil(99);
     }
 }
