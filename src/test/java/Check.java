@@ -1,7 +1,7 @@
 /** Counts answers that are not as due and tells where they were asked. */
 final class Check {
     private final String test;
-    private int promise;
+    private String sentence = "";
     private int asked;
     private int wrong;
 
@@ -10,7 +10,16 @@ final class Check {
     }
 
     void promise(int number) {
-        promise = number;
+        sentence = "promise " + number;
+    }
+
+    /** What the document says, in its words, of that which is asked next. */
+    void says(int promise, String words) {
+        sentence = "promise " + promise + ", '" + words + "'";
+    }
+
+    void saysInSection(int section, String words) {
+        sentence = "section " + section + ", '" + words + "'";
     }
 
     void due(long want, long got) {
@@ -50,7 +59,7 @@ final class Check {
                 where = where + ":" + call.getLineNumber();
             }
         }
-        System.out.println(test + where + ": promise " + promise + ": " + what);
+        System.out.println(test + where + ": " + sentence + ": " + what);
     }
 
     void end() {
