@@ -30,7 +30,10 @@ public final class ActEdgesTest {
         poolKinds();
         poolFromTwoOn();
         poolTests();
+        poolGroupsAndSigns();
+        poolWarm();
         poolBanks();
+        madeAsTold();
         freezeLoss();
         freezeAndThawKinds();
         reserved();
@@ -500,6 +503,77 @@ public final class ActEdgesTest {
         c.due(2, x.told(Make.pool(x, Make.PLASMA, 0, 1), 0));
         x.test(2, false);
         c.due(2, x.told(Make.pool(x, Make.PLASMA, 3, 2), 0));
+    }
+
+    /** All pairs of groups; signs at both ends of the 16 bits. */
+    private static void poolGroupsAndSigns() {
+        c.says(22, "its GROUP has the bits that all have, its SIGNS those that one has");
+        for (int one = 0; one < 8; one++) {
+            BloodBank x = new BloodBank();
+            for (int other = 0; other < 8; other++) {
+                int a = x.take(0, Make.PLASMA, 1, one, 1 << 2 * one, 1);
+                int b = x.take(0, Make.PLASMA, 1, other, 1 << 2 * other + 1, 1);
+                int pool = Make.pool(x, Make.PLASMA, a, b);
+                c.due(one & other, x.told(pool, 6));
+                c.due(1 << 2 * one | 1 << 2 * other + 1, x.told(pool, 7));
+            }
+            int none = Make.pool(x, Make.PLASMA, x.take(0, 2, 1, 7, 0, 1), x.take(0, 2, 1, 7, 0, 1));
+            c.due(7, x.told(none, 6));
+            c.due(0, x.told(none, 7));
+        }
+    }
+
+    private static void poolWarm() {
+        c.says(22, "WARM if one is; not FREE, RECALLED, RESERVED; no UNREAD MINUTES, no ROW OF MINUTES");
+        for (int warm = 0; warm < 4; warm++) {
+            BloodBank x = new BloodBank();
+            for (int i = 0; i < 3; i++) {
+                Make.ready(x, Make.PLATELETS);
+            }
+            x.minute();
+            if (warm < 3) {
+                Make.warm(x, warm);
+            }
+            c.due(3, Make.pool(x, Make.PLATELETS, 0, 1, 2));
+            int[] told = {1, 0, warm < 3 ? 1 : 0, 0, -9, -1, 1, 0, 300, 0, warm < 3 ? 39 : 31, 0, 0};
+            for (int what = 0; what < told.length; what++) {
+                c.due(told[what], x.told(3, what));
+            }
+        }
+    }
+
+    /** What part(), freeze() and thaw() make, of bags tested or not, free or not, warm or not. */
+    private static void madeAsTold() {
+        c.says(19, "TESTED and WARM as it is, not FREE, RECALLED, RESERVED; .. no UNREAD MINUTES, no ROW OF MINUTES");
+        int[] kinds = {Make.WHOLE, Make.PLASMA, Make.FROZEN};
+        for (int kind : kinds) {
+            for (int how = 0; how < 8; how++) {
+                BloodBank x = new BloodBank();
+                int bag = Make.bag(x, kind);
+                if (how % 4 > 0) {
+                    x.test(bag, how % 4 < 3);
+                }
+                if (how % 4 == 1) {
+                    x.free(bag);
+                }
+                x.minute();
+                if (how >= 4) {
+                    Make.warm(x, bag);
+                }
+                int made = kind == Make.WHOLE ? x.part(bag) : kind == Make.PLASMA ? x.freeze(bag) : x.thaw(bag);
+                c.due(bag + 1, made);
+                for (int i = made; i < x.count(1); i++) {
+                    int[] told = {how % 4 == 0 ? 0 : how % 4 < 3 ? 1 : 2, 0, how / 4, 0, -9, 1, 1, 0};
+                    for (int what = 0; what < told.length; what++) {
+                        c.due(told[what], x.told(i, what));
+                    }
+                    c.due(x.count(3) + LIVES[x.kindOf(i)], x.told(i, 10));
+                    c.due(0, x.told(i, 11));
+                    c.due(0, x.told(i, 12));
+                    c.due(0, x.state(i));
+                }
+            }
+        }
     }
 
     private static void poolBanks() {

@@ -160,11 +160,12 @@ public final class BagsTest {
 
     private static void fitting() {
         c.promise(41);
-        BloodBank x = new BloodBank();
-        for (int p = 0; p < 16; p++) {
-            x.patient(p % 8, p < 8 ? 2 : 5);
-        }
+        BloodBank x = null;
         for (int kind = 0; kind < 5; kind++) {
+            x = new BloodBank();
+            for (int p = 0; p < 16; p++) {
+                x.patient(p % 8, p < 8 ? 2 : 5);
+            }
             for (int g = 0; g < 8; g++) {
                 int bag = kind == 4 ? frozen(x, g) : x.take(0, kind, 1, g, 1, 50);
                 for (int p = 0; p < 16; p++) {
@@ -176,8 +177,9 @@ public final class BagsTest {
         c.due(NONE, x.fits(x.count(1), 0));
         c.due(NONE, x.fits(0, -1));
         c.due(NONE, x.fits(0, 16));
-        c.due(1, x.spoil(0));
-        c.due(1, x.fits(0, 0));
+        int whole = x.take(0, 0, 1, 0, 1, 50);
+        c.due(1, x.spoil(whole));
+        c.due(1, x.fits(whole, 0));
     }
 
     /** Bit by bit, as the document tells it. */

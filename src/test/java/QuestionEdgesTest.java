@@ -598,6 +598,7 @@ public final class QuestionEdgesTest {
         int away = Make.ready(x, Make.POOL);
         x.give(away, 1);
         Make.bag(x, Make.FROZEN);
+        x.minute();
         x.clear();
         x.rack(1, 0);
         c.due(NO_ROW, x.places(0));

@@ -325,7 +325,9 @@ public final class QuestionsTest {
             x.take(i % 4, i % 4, i, i % 8, i, 500 + i);
             x.part(i);
             x.minute();
-            c.due(digestByWords(x), x.digest());
+            if (i % 8 == 0) {
+                c.due(digestByWords(x), x.digest());
+            }
         }
     }
 
@@ -420,8 +422,6 @@ public final class QuestionsTest {
         c.due(199, x.match(39, 1));
         c.promise(31);
         c.due(200, x.recall(1));
-        c.promise(48);
-        c.due(digestByWords(x), x.digest());
         c.promise(49);
         c.due(200, x.clear());
     }

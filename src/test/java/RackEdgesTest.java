@@ -32,6 +32,7 @@ public final class RackEdgesTest {
         warmStays();
         notLookedAt();
         eachRackAndPlace();
+        allBags();
         c.end();
     }
 
@@ -541,6 +542,15 @@ public final class RackEdgesTest {
             x.minute();
             due(x, bag, 1, 1, 0);
         }
+    }
+
+    private static void allBags() {
+        c.says(10, "a MINUTE passes (with all 200 BAGS)");
+        BloodBank x = new BloodBank();
+        Make.bags(x, Make.CELLS, 200);
+        c.due(1, x.minute());
+        due(x, 0, 1, 0, 0);
+        due(x, 199, 1, 0, 0);
     }
 
     /** In the first and the last of twelve racks, in the first and the last of twenty places. */

@@ -176,17 +176,16 @@ public final class RacksTest {
 
     private static void forms() {
         c.promise(8);
-        for (int sign = -1; sign <= 1; sign += 2) {
-            BloodBank x = new BloodBank();
-            x.rack(0, 6);
-            x.rack(0, 6);
-            x.probe(0, true);
-            x.probe(1, true);
-            for (int tenths = 0; tenths <= 500; tenths++) {
-                int rack = tenths / 300;
-                x.cold(rack, sign * tenths);
-                c.due(Float.floatToIntBits(sign * tenths / 10f), x.reading(rack, tenths % 300));
+        BloodBank x = null;
+        for (int tenths = -500; tenths <= 500; tenths++) {
+            int k = (tenths + 500) % 200;
+            if (k == 0) {
+                x = new BloodBank();
+                x.rack(0, 6);
+                x.probe(0, true);
             }
+            x.cold(0, tenths);
+            c.due(Float.floatToIntBits(tenths / 10f), x.reading(0, k));
         }
     }
 

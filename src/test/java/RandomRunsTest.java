@@ -1,194 +1,218 @@
+import java.lang.reflect.InvocationTargetException;
+import java.lang.reflect.Method;
+import java.lang.reflect.Modifier;
+import java.util.ArrayList;
+import java.util.HashMap;
+import java.util.List;
+import java.util.Map;
 import java.util.Random;
+import java.util.TreeMap;
+import java.util.TreeSet;
 
-/** Runs of random calls, sound and wild: nothing throws, and what the document ties together agrees after each. */
+/**
+ * Runs of 512 random calls, sound and wild, on the class and on Model: each answer must be the same. Behind all runs
+ * each call must have given all answers below 0 that the document tells with it, and no others.
+ */
 public final class RandomRunsTest {
-    private static final int RUNS = 400;
+    private static final int RUNS = 1000;
     private static final int CALLS = 512;
-    private static final int[] WILD = {Integer.MIN_VALUE, Integer.MAX_VALUE, -1, -9, 200, 65536};
+    private static final int CLIMATES = 6;
+    private static final int[] WILD =
+        {Integer.MIN_VALUE, Integer.MAX_VALUE, -1, -2, -9, 12, 20, 21, 40, 200, 300, 65536};
     private static final Check c = new Check("RandomRunsTest");
 
+    /** Weight, name, arguments, and the answers below 0 that are told with it. */
+    private static final String[] FACE = {
+        "3 rack bank rackKind NONE BAD FULL", "4 row rack size NONE BAD TAKEN SIZE", "1 unrow rack NONE NO_ROW TAKEN",
+        "4 probe rack flag NONE AS_IS", "30 cold rack tenths NONE BAD FULL NO_ROW", "4 fails rack NONE FULL NO_ROW",
+        "5 reading rack reading", "3 readings rack NONE NO_ROW", "24 minute", "4 patient group signs BAD FULL",
+        "30 take bank takeKind donor group signs grams NONE BAD FULL", "5 send bag bank NONE GONE AS_IS",
+        "30 lay bag rack place NONE BAD GONE AS_IS NO_ROW PLACE TAKEN KIND",
+        "8 lift rack place kind NONE BAD NO_ROW PLACE EMPTY KIND",
+        "10 slide rack place place place NONE NO_ROW PLACE TAKEN",
+        "30 test bag flag NONE GONE AS_IS", "24 free bag NONE GONE UNTESTED AS_IS WARM EXPIRED RECALLED",
+        "14 part bag NONE FULL GONE KIND RESERVED EXPIRED RECALLED", "16 tray bag NONE FULL GONE AS_IS", "1 untray",
+        "10 pool poolKind BAD FULL EMPTY GONE KIND AS_IS RESERVED EXPIRED RECALLED",
+        "10 freeze bag NONE FULL GONE KIND AS_IS RESERVED EXPIRED RECALLED",
+        "10 thaw bag NONE FULL GONE KIND RESERVED RECALLED", "10 reserve bag patient NONE GONE RESERVED UNFIT",
+        "5 release bag NONE AS_IS",
+        "24 give bag patient NONE GONE UNTESTED UNFREE WARM EXPIRED RECALLED RESERVED UNFIT",
+        "14 home bag NONE AS_IS", "2 spoil bag NONE GONE", "5 share bag few NONE BAD GONE NOUGHT", "1 recall donor BAD",
+        "3 listed few NONE", "3 kindOf bag NONE", "5 state bag NONE", "20 told bag what NONE BAD NOTHING",
+        "5 bodies bag body NONE BAD MARK", "5 came bag few NONE", "5 from bag few NONE",
+        "8 at rack place NONE NO_ROW PLACE EMPTY", "3 places rack NONE NO_ROW", "6 fits bag patient NONE",
+        "10 match patient matchKind NONE BAD EMPTY", "6 stock bank kind NONE BAD", "6 tries act BAD", "3 locked",
+        "12 status STATUS", "4 count few BAD", "10 digest DIGEST", "0 clear"};
+
+    private static final List<String[]> CALLS_OF_FACE = new ArrayList<>();
+    private static final Map<String, Method> OF_CLASS = new HashMap<>();
+    private static final Map<String, Method> OF_MODEL = new HashMap<>();
+    private static final Map<String, TreeSet<Long>> SEEN = new TreeMap<>();
+
     private final Random random;
+    private final int climate;
     private final BloodBank x = new BloodBank();
-    private final int[] tries = new int[14];
-    private int status;
+    private final Model model = new Model();
+    private int asked;
 
     private RandomRunsTest(int seed) {
         random = new Random(seed);
+        climate = seed % CLIMATES;
     }
 
-    public static void main(String[] args) {
+    public static void main(String[] args) throws ReflectiveOperationException {
+        readFace();
         for (int seed = 0; seed < RUNS; seed++) {
-            RandomRunsTest run = new RandomRunsTest(seed);
-            try {
-                run.setUp();
-                for (int i = 0; i < CALLS; i++) {
-                    run.oneCall();
-                }
-                run.agree();
-            } catch (RuntimeException e) {
-                c.due(false, "run " + seed + " threw " + e + " at " + e.getStackTrace()[0]);
-            }
+            new RandomRunsTest(seed).run("run " + seed);
         }
+        answersAsTold();
         c.end();
     }
 
-    private void setUp() {
-        for (int i = 0; i < 5; i++) {
-            x.rack(i % 2, i < 3 ? 6 : i - 1);
-            x.row(i, 6);
-            x.probe(i, true);
-            x.patient(random.nextInt(8), random.nextInt(4));
+    private static void readFace() {
+        for (Method m : BloodBank.class.getDeclaredMethods()) {
+            OF_CLASS.put(m.getName(), m);
+        }
+        for (Method m : Model.class.getDeclaredMethods()) {
+            if (Modifier.isPublic(m.getModifiers())) {
+                OF_MODEL.put(m.getName(), m);
+            }
+        }
+        for (String line : FACE) {
+            String[] words = line.split(" ");
+            SEEN.put(words[1], new TreeSet<>());
+            for (int i = Integer.parseInt(words[0]); i > 0; i--) {
+                CALLS_OF_FACE.add(words);
+            }
         }
     }
 
-    private int upTo(int most) {
-        return random.nextInt(60) == 0 ? WILD[random.nextInt(WILD.length)] : random.nextInt(most + 1);
+    private void run(String name) throws ReflectiveOperationException {
+        setUp(name);
+        while (asked < CALLS) {
+            boolean tends = climate > 0 && random.nextInt(4) < (climate == 1 ? 2 : 3);
+            String[] words = tends ? ofClimate() : CALLS_OF_FACE.get(random.nextInt(CALLS_OF_FACE.size()));
+            if (random.nextInt(4000) == 0) {
+                words = new String[] {"0", "clear"};
+            }
+            ask(name, words[1], argumentsFor(words));
+        }
     }
 
+    /** Some runs tend to warm bags, to full banks, to full probes, to waiting, to full tables. */
+    private String[] ofClimate() {
+        String[][] tending = {{"cold", "cold", "cold", "minute"}, {"take", "take", "take", "part", "freeze", "thaw"},
+            {"cold", "fails"}, {"minute", "minute", "minute", "take"}, {"rack", "patient", "tray"}};
+        String[] names = tending[climate - 1];
+        String name = names[random.nextInt(names.length)];
+        for (String[] words : CALLS_OF_FACE) {
+            if (words[1].equals(name)) {
+                return words;
+            }
+        }
+        throw new IllegalStateException(name);
+    }
+
+    private void setUp(String name) throws ReflectiveOperationException {
+        for (int rack = 0; rack < 3; rack++) {
+            ask(name, "rack", rack / 2, 6);
+            ask(name, "row", rack, 6);
+            ask(name, "probe", rack, true);
+            ask(name, "patient", random.nextInt(8), random.nextInt(4));
+        }
+    }
+
+    private Object[] argumentsFor(String[] words) {
+        Class<?>[] types = OF_CLASS.get(words[1]).getParameterTypes();
+        Object[] arguments = new Object[types.length];
+        for (int i = 0; i < types.length; i++) {
+            boolean wild = random.nextInt(70) == 0;
+            int n = wild ? WILD[random.nextInt(WILD.length)] : argument(words[i + 2]);
+            arguments[i] = types[i] == boolean.class ? (Object) (random.nextInt(5) > 0) : (Object) n;
+        }
+        return arguments;
+    }
+
+    private int argument(String kind) {
+        switch (kind) {
+            case "bank": return random.nextInt(8) == 0 ? random.nextInt(6) - 1 : 0;
+            case "rackKind": return random.nextInt(3) > 0 ? 6 : random.nextInt(9) - 1;
+            case "kind": case "matchKind": return random.nextInt(9) - 1;
+            case "takeKind": return random.nextInt(20) == 0 ? 4 : random.nextInt(4);
+            case "poolKind": return random.nextInt(12) == 0 ? random.nextInt(6) : 2 + random.nextInt(2);
+            case "rack": return climate == 3 ? 0 : Math.min(random.nextInt(14), random.nextInt(climate == 1 ? 2 : 4));
+            case "size": return random.nextInt(4) == 0 ? random.nextInt(24) - 1 : 6;
+            case "tenths": return tenths();
+            case "reading": return Math.min(random.nextInt(302), random.nextInt(40)) - 1;
+            case "group": return random.nextInt(30) == 0 ? 8 : random.nextInt(3) > 0 ? 1 : random.nextInt(8);
+            case "signs": return random.nextInt(30) == 0 ? 65535 : random.nextInt(4);
+            case "donor": return random.nextInt(30) == 0 ? 99 + random.nextInt(2) : random.nextInt(6);
+            case "grams": return random.nextInt(30) == 0 ? random.nextInt(2) * 2001 : 1 + random.nextInt(2000);
+            case "bag": return bag();
+            case "place": return random.nextInt(8) - 1;
+            case "patient": return random.nextInt(12) == 0 ? random.nextInt(41) : random.nextInt(3);
+            case "what": return random.nextInt(19) - 1;
+            case "body": return random.nextInt(9) - 1;
+            case "act": return random.nextInt(16) - 1;
+            default: return random.nextInt(9) - 1;
+        }
+    }
+
+    private int tenths() {
+        int[] edges = {60, 61, 80, 81, 240, 241, -180, -179, 500, -500, 501, -501, 0, -1};
+        if (climate == 1) {
+            return random.nextInt(12) == 0 ? edges[random.nextInt(edges.length)] : 300;
+        }
+        return random.nextBoolean() ? edges[random.nextInt(edges.length)] : random.nextInt(1001) - 500;
+    }
+
+    /** Mostly one of the latest, so that what is done with one bag comes together. */
     private int bag() {
-        return upTo(Math.max(0, x.count(1) - 1));
+        int bags = model.count(1);
+        return random.nextInt(5) == 0 ? random.nextInt(bags + 2) - 1 : Math.max(0, bags - 1 - random.nextInt(8));
     }
 
-    private void oneCall() {
-        long before = x.digest();
-        int act = random.nextInt(30);
-        if (act < 14) {
-            agreeOnAct(act, before, anAct(act));
-        } else {
-            noAct(act);
-        }
-        c.due(status, x.status());
-        c.due(0, x.locked());
-        if (random.nextInt(20) == 0) {
-            agree();
-        }
-    }
-
-    private int anAct(int act) {
-        switch (act) {
-            case 0: return x.lay(bag(), upTo(4), upTo(6));
-            case 1: return x.lift(upTo(4), upTo(6), random.nextBoolean() ? 6 : upTo(6));
-            case 2: return x.slide(upTo(4), upTo(6), upTo(6), upTo(6));
-            case 3: return x.test(bag(), random.nextInt(5) > 0);
-            case 4: return x.free(bag());
-            case 5: return x.part(bag());
-            case 6: return x.pool(2 + upTo(1));
-            case 7: return x.freeze(bag());
-            case 8: return x.thaw(bag());
-            case 9: return x.reserve(bag(), upTo(4));
-            case 10: return x.give(bag(), upTo(4));
-            case 11: return x.home(bag());
-            case 12: return random.nextInt(3) == 0 ? x.spoil(bag()) : x.spoil(-1);
-            default: return x.share(bag(), upTo(5));
-        }
-    }
-
-    private void agreeOnAct(int act, long before, int answer) {
-        boolean wasRefused = answer < 0 && answer >= BloodBank.FULL;
-        if (!wasRefused) {
-            tries[act]++;
-        }
-        status = Math.min(answer, 0);
-        c.due(tries[act], x.tries(act));
-        c.due(answer >= 0 || before == x.digest(), "refused or found, and yet a bag changed, act " + act);
-    }
-
-    private void noAct(int which) {
-        switch (which) {
-            case 14: x.minute(); break;
-            case 15: x.cold(upTo(4), random.nextInt(1100) - 550); break;
-            case 16: x.fails(upTo(4)); break;
-            case 17: x.tray(bag()); break;
-            case 18: if (random.nextInt(4) == 0) { x.untray(); } break;
-            case 19: x.release(bag()); break;
-            case 20: if (random.nextInt(9) == 0) { agreeOnRecall(upTo(30)); } break;
-            case 21: x.send(bag(), upTo(3)); break;
-            case 22: x.probe(upTo(4), random.nextInt(4) > 0); break;
-            case 23: x.row(upTo(4), upTo(6)); break;
-            case 24: if (random.nextInt(3) == 0) { x.unrow(upTo(4)); } break;
-            case 25: agreeOnMatch(upTo(4), upTo(5)); break;
-            default: x.take(upTo(1), upTo(3), upTo(30), upTo(7), upTo(15), 1 + upTo(500)); break;
-        }
-    }
-
-    /** Asked by from() of each bag whether it came, over others, of the donor's. */
-    private void agreeOnRecall(int donor) {
-        int bags = x.count(1);
-        boolean[] due = new boolean[bags];
-        boolean[] ahead = new boolean[bags];
-        int fresh = 0;
-        for (int i = 0; i < bags; i++) {
-            due[i] = x.told(i, 5) == donor;
-            for (int k = 0; x.from(i, k) != BloodBank.NONE; k++) {
-                due[i] |= due[x.from(i, k)];
-            }
-            ahead[i] = x.told(i, 3) == 1;
-            fresh += due[i] && !ahead[i] && x.state(i) != 2 ? 1 : 0;
-        }
-        boolean refused = donor < 0 || donor > 99;
-        c.due(refused ? BloodBank.BAD : fresh, x.recall(donor));
-        int listed = 0;
-        for (int i = 0; i < bags && !refused; i++) {
-            boolean away = x.state(i) == 2;
-            c.due(ahead[i] || due[i] && !away ? 1 : 0, x.told(i, 3));
-            if (due[i] && away) {
-                c.due(i, x.listed(listed));
-                listed++;
+    private void ask(String run, String name, Object... arguments) throws ReflectiveOperationException {
+        asked++;
+        Object want = answer(OF_MODEL.get(name), model, arguments);
+        Object got = answer(OF_CLASS.get(name), x, arguments);
+        c.due(want.equals(got), run + ", call " + asked + ": " + name + List.of(arguments) + " answered " + got
+            + ", due is " + want);
+        if (got instanceof Number) {
+            long n = ((Number) got).longValue();
+            if (n < 0 || name.equals("reading")) {
+                SEEN.get(name).add(Math.min(n, 0));
             }
         }
-        c.due(refused ? x.listed(listed) : BloodBank.NONE, x.listed(listed));
     }
 
-    private void agreeOnMatch(int patient, int kind) {
-        if (patient < 0 || patient >= x.count(2) || kind < 0 || kind > 5) {
-            c.due(x.match(patient, kind) >= BloodBank.BAD, "refused");
-            return;
+    private static Object answer(Method m, Object of, Object[] arguments) throws ReflectiveOperationException {
+        try {
+            return m.invoke(of, arguments);
+        } catch (InvocationTargetException e) {
+            return e.getCause().getClass().getSimpleName();
         }
-        int best = BloodBank.EMPTY;
-        for (int i = 0; i < x.count(1); i++) {
-            boolean is = x.kindOf(i) == kind || x.kindOf(i) == 4 && kind == 2;
-            boolean given = x.state(i) < 2 && x.told(i, 0) == 1 && x.told(i, 1) == 1 && x.told(i, 2) == 0
-                && x.count(3) < x.told(i, 10) && x.told(i, 3) == 0
-                && (x.told(i, 4) == -9 || x.told(i, 4) == patient) && x.fits(i, patient) == 1;
-            if (is && given && (best < 0 || x.told(i, 10) < x.told(best, 10))) {
-                best = i;
-            }
-        }
-        c.due(best, x.match(patient, kind));
     }
 
-    private void agree() {
-        int[] stock = new int[4];
-        int lying = 0;
-        for (int i = 0; i < x.count(1); i++) {
-            boolean inRack = x.state(i) == 1;
-            c.due(inRack == (x.told(i, 14) != -9) && inRack == (x.told(i, 15) != -9), "rack and place");
-            if (inRack) {
-                c.due(i, x.at(x.told(i, 14), x.told(i, 15)));
-                lying++;
+    private static void answersAsTold() throws ReflectiveOperationException {
+        for (String line : FACE) {
+            String[] words = line.split(" ");
+            TreeSet<Long> due = new TreeSet<>();
+            for (int i = 2 + OF_CLASS.get(words[1]).getParameterCount(); i < words.length; i++) {
+                due.add(constant(words[i]));
             }
-            c.due((x.state(i) == 2) == (x.told(i, 16) != -9), "away from a minute on");
-            stock[x.told(i, 13)] += x.state(i) < 2 ? 1 : 0;
-            for (int k = 0; x.came(i, k) != BloodBank.NONE; k++) {
-                c.due(isFrom(x.came(i, k), i), "came of it and yet is not from it");
-            }
+            boolean free = line.endsWith("STATUS") || line.endsWith("DIGEST") || words[1].equals("reading");
+            c.due(free || due.equals(SEEN.get(words[1])), words[1] + " answered " + SEEN.get(words[1]) + ", told are "
+                + due);
         }
-        for (int bank = 0; bank < 4; bank++) {
-            c.due(stock[bank], x.stock(bank, 6));
-        }
-        for (int rack = 0; rack < x.count(0); rack++) {
-            for (int place = 0; place < x.places(rack); place++) {
-                lying -= x.at(rack, place) >= 0 ? 1 : 0;
-            }
-        }
-        c.due(0, lying);
     }
 
-    private boolean isFrom(int bag, int source) {
-        boolean is = false;
-        for (int k = 0; x.from(bag, k) != BloodBank.NONE; k++) {
-            is |= x.from(bag, k) == source;
+    private static long constant(String name) throws ReflectiveOperationException {
+        switch (name) {
+            case "NOTHING": return -9;
+            case "MARK": return -180;
+            case "STATUS": case "DIGEST": return 0;
+            default: return BloodBank.class.getField(name).getInt(null);
         }
-        return is;
     }
 }
