@@ -597,8 +597,13 @@ public final class QuestionEdgesTest {
         x.recall(1);
         int away = Make.ready(x, Make.POOL);
         x.give(away, 1);
-        Make.bag(x, Make.FROZEN);
+        int frozen = Make.bag(x, Make.FROZEN);
+        int rack = Make.layInNewRack(x, frozen);
+        x.probe(rack, true);
+        x.cold(rack, 0);
         x.minute();
+        c.due(1, x.told(frozen, 12));
+        c.due(1, x.told(bag, 11));
         x.clear();
         x.rack(1, 0);
         c.due(NO_ROW, x.places(0));
@@ -608,7 +613,7 @@ public final class QuestionEdgesTest {
         x.row(0, 3);
         c.due(EMPTY, x.at(0, 2));
         x.patient(7, 0);
-        for (int i = 0; i < 7; i++) {
+        for (int i = 0; i <= frozen; i++) {
             c.due(i, x.take(1, 0, 2, 3, 4, 5));
             int[] told = {0, 0, 0, 0, -9, 2, 3, 4, 5, 0, 120, 0, 0, 1, -9, -9, -9};
             for (int what = 0; what <= 16; what++) {
