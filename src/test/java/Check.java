@@ -29,6 +29,13 @@ final class Check {
         }
     }
 
+    void due(String want, String got) {
+        asked++;
+        if (!want.equals(got)) {
+            tell("got " + got + ", due is " + want);
+        }
+    }
+
     void due(boolean holds, String what) {
         asked++;
         if (!holds) {

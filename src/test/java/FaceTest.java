@@ -1,10 +1,14 @@
+import java.io.IOException;
 import java.lang.reflect.Constructor;
 import java.lang.reflect.Field;
 import java.lang.reflect.Method;
 import java.lang.reflect.Modifier;
+import java.util.Arrays;
 import java.util.HashSet;
 import java.util.Set;
 import java.util.TreeSet;
+import java.util.regex.Matcher;
+import java.util.regex.Pattern;
 
 /** The public face is the document's, and nothing else can be reached from outside. */
 public final class FaceTest {
@@ -24,8 +28,13 @@ public final class FaceTest {
         "NOUGHT -17", "GONE -18", "UNTESTED -19", "UNFREE -20", "WARM -21", "EXPIRED -22", "RECALLED -23",
         "RESERVED -24", "UNFIT -25", "AS_IS -26"};
 
-    public static void main(String[] args) throws IllegalAccessException {
+    private static final Pattern METHOD =
+        Pattern.compile("(?m)^    public ((?:int|long) \\w+)\\((.*)\\)(?: throws (.*))?;$");
+    private static final Pattern CONSTANT = Pattern.compile("([A-Z_]+) = (-\\d+)[,;]");
+
+    public static void main(String[] args) throws IllegalAccessException, IOException {
         Check c = new Check("FaceTest");
+        checkDocument(c);
         c.due(Modifier.isFinal(BloodBank.class.getModifiers()), "the class is final");
         c.due(new TreeSet<>(Set.of(METHODS)).toString().equals(methods().toString()), "the methods: " + methods());
         c.due(new TreeSet<>(Set.of(CONSTANTS)).toString().equals(constants().toString()), "constants: " + constants());
@@ -34,6 +43,35 @@ public final class FaceTest {
             "one public constructor without parameters");
         checkInside(c);
         c.end();
+    }
+
+    /** The face as the document writes it; of the methods what they throw, too. */
+    private static void checkDocument(Check c) throws IOException, IllegalAccessException {
+        String face = String.join("\n", Project.blocks(Project.document(), "java").get(0));
+        Set<String> told = new TreeSet<>();
+        for (Matcher m = METHOD.matcher(face); m.find();) {
+            String types = m.group(2).replaceAll(" \\w+(, |$)", "$1").replace(" ", "");
+            told.add(m.group(1) + "(" + types + ") " + (m.group(3) == null ? "" : m.group(3)));
+        }
+        c.due(METHODS.length, told.size());
+        Set<String> there = new TreeSet<>();
+        for (Method m : BloodBank.class.getMethods()) {
+            if (m.getDeclaringClass() == BloodBank.class) {
+                c.due(m.getModifiers() == Modifier.PUBLIC, "public and nothing else: " + m);
+                there.add(m.getReturnType() + " " + m.getName() + "(" + names(m.getParameterTypes()) + ") "
+                    + names(m.getExceptionTypes()).replace(",", ", "));
+            }
+        }
+        c.due(told.toString(), there.toString());
+        Set<String> constants = new TreeSet<>();
+        for (Matcher m = CONSTANT.matcher(face); m.find();) {
+            constants.add(m.group(1) + " " + m.group(2));
+        }
+        c.due(constants.toString(), constants().toString());
+    }
+
+    private static String names(Class<?>[] types) {
+        return String.join(",", Arrays.stream(types).map(Class::getSimpleName).toArray(String[]::new));
     }
 
     private static Set<String> methods() {
